@@ -5,6 +5,7 @@ public final class TownTune {
     public static final int NONE = -1;
 
     private static final int TEXT_MOST = 600;
+    private static final int FED_AT_ONCE = 20;
     private static final int PEOPLE_MOST = 8;
     private static final int HOUSES = 4;
     private static final int FEUDS_MOST = 6;
@@ -75,13 +76,9 @@ public final class TownTune {
     private static final int HEARD_REFUSED = 2;
     private static final int STATUS_MOST = 3;
 
-    private final byte[] tape = new byte[TEXT_MOST];
-    private int tapeLength = 0;
-    private int faultPlace = NONE;
-    private final Reader reader;
+    private final Reader reader = new Reader();
+    private final Tokens tape = reader.tokens;
     private Town told = new Town();
-    // A text with a fault must leave the town as it is, so it is read into this one.
-    private Town spare = new Town();
     private final Life now = new Life();
     private final Acts acts = new Acts();
     private final Heard heard = new Heard();
@@ -95,54 +92,42 @@ public final class TownTune {
     private final int[] row = new int[TUNE_MOST + 1];
 
     public TownTune() {
-        reader = new Reader(new Tokens(tape));
     }
 
     public int feed(int a, int b, int c, int d, int e) {
-        if (tapeLength + 20 > TEXT_MOST) {
+        if (tape.fed + FED_AT_ONCE > TEXT_MOST) {
             return NONE;
         }
-        feedFour(a);
-        feedFour(b);
-        feedFour(c);
-        feedFour(d);
-        feedFour(e);
-        return tapeLength;
-    }
-
-    private void feedFour(int four) {
-        for (int shift = 24; shift >= 0; shift -= 8) {
-            if (tapeLength < TEXT_MOST) {
-                tape[tapeLength] = (byte) (four >> shift);
-                tapeLength++;
-            }
-        }
+        tape.addFour(a);
+        tape.addFour(b);
+        tape.addFour(c);
+        tape.addFour(d);
+        tape.addFour(e);
+        return tape.fed;
     }
 
     public int town(int n) throws IllegalArgumentException {
-        if (n < 0 || n > tapeLength) {
+        if (n < 0 || n > tape.fed) {
             throw new IllegalArgumentException("the tape has not so many bytes");
         }
-        tapeLength = 0;
-        int found = reader.read(n, spare);
-        if (found != 0) {
-            faultPlace = reader.faultPlace;
+        tape.fed = 0;
+        int reason = reader.read(n);
+        if (reason != 0) {
             status[TEXTS_REFUSED]++;
-            return found;
+            return reason;
         }
-        faultPlace = NONE;
         Town earlier = told;
-        told = spare;
-        spare = earlier;
+        told = reader.town;
+        reader.town = earlier;
         now.begin(told);
         acts.size = 0;
         heard.size = 0;
-        kept.is = false;
+        kept.isThere = false;
         return 0;
     }
 
     public int fault() {
-        return faultPlace;
+        return reader.faultPlace;
     }
 
     public int count(int what) throws NoSuchElementException {
@@ -159,7 +144,7 @@ public final class TownTune {
             case 9: return now.married;
             case 10: return acts.size;
             case 11: return heard.size;
-            case 12: return tapeLength;
+            case 12: return tape.fed;
             case 13: return status[TEXTS_REFUSED];
             case 14: return status[ACTS_REFUSED];
             case 15: return status[HEARD_REFUSED];
@@ -654,7 +639,7 @@ public final class TownTune {
     }
 
     public void image() {
-        kept.is = true;
+        kept.isThere = true;
         kept.life.copyTune(now);
         kept.life.copyRest(now);
         kept.acts.copy(acts);
@@ -663,7 +648,7 @@ public final class TownTune {
     }
 
     public boolean restore() {
-        if (!kept.is) {
+        if (!kept.isThere) {
             return false;
         }
         now.copyTune(kept.life);
@@ -674,9 +659,10 @@ public final class TownTune {
         return true;
     }
 
-    /** The tokens of a text, one at a time; its end is one too, at the text's length. */
+    /** The tape, and a text's tokens on it one at a time; its end is one too, at its length. */
     private static final class Tokens {
-        private final byte[] text;
+        private final byte[] text = new byte[TEXT_MOST];
+        int fed = 0;
         private int length = 0;
         private int after = 0;
         int kind = END;
@@ -684,12 +670,17 @@ public final class TownTune {
         int value = 0;
         int digits = 0;
 
-        Tokens(byte[] text) {
-            this.text = text;
+        void addFour(int four) {
+            for (int shift = 24; shift >= 0; shift -= 8) {
+                if (fed < TEXT_MOST) {
+                    text[fed] = (byte) (four >> shift);
+                    fed++;
+                }
+            }
         }
 
         void begin(int bytes) {
-            length = Math.min(bytes, text.length);
+            length = Math.min(bytes, TEXT_MOST);
             after = 0;
             next();
         }
@@ -798,43 +789,40 @@ public final class TownTune {
         }
     }
 
-    /** Reads a text into a town up to the first fault. */
+    /** Reads a text up to the first fault. */
     private static final class Reader {
-        private final Tokens tokens;
-        private Town town = null;
-        private int fault = 0;
+        // A text with a fault must leave the town as it is, so it is read into another one.
+        Town town = new Town();
+        final Tokens tokens = new Tokens();
+        private int reason = 0;
         int faultPlace = NONE;
         private boolean hasKey = false;
         private boolean hasOther = false;
         private boolean hasSings = false;
         // Operators whose right side is still being read, and open parentheses.
-        private final int[] open = new int[TEXT_MOST];
+        // In each of seven expressions at most twelve wait: or, and, six nots, < + * and (.
+        private final int[] open = new int[7 * 12];
         private int openSize = 0;
         private int nested = 0;
 
-        Reader(Tokens tokens) {
-            this.tokens = tokens;
-        }
-
-        int read(int bytes, Town into) {
-            town = into;
+        int read(int bytes) {
             town.clear();
-            fault = 0;
+            reason = 0;
             faultPlace = NONE;
             hasKey = false;
             hasOther = false;
             hasSings = false;
             tokens.begin(bytes);
-            for (int i = 0; i < TEXT_MOST && fault == 0 && tokens.kind != END; i++) {
+            for (int i = 0; i < TEXT_MOST && reason == 0 && tokens.kind != END; i++) {
                 readLine();
             }
             town.sortByBirthdays();
-            return fault;
+            return reason;
         }
 
         /** Answers false, so that who reads on stops in the same statement. */
-        private boolean refuse(int reason) {
-            fault = reason;
+        private boolean refuse(int why) {
+            reason = why;
             faultPlace = tokens.place;
             return false;
         }
@@ -1604,7 +1592,7 @@ public final class TownTune {
 
     /** All that an image keeps. */
     private static final class Image {
-        boolean is = false;
+        boolean isThere = false;
         final Life life = new Life();
         final Acts acts = new Acts();
         final Heard heard = new Heard();
