@@ -548,7 +548,15 @@ public final class TownTune {
     public int listen(int what) throws NoSuchElementException {
         needWhat(what, 1);
         int end = Math.min(now.length + LISTEN_MOST, TUNE_MOST);
-        gatherUnlike(end);
+        for (int place = now.length; place < end; place++) {
+            row[place] = 0;
+        }
+        future.copyTune(now);
+        for (int person = 0; person < told.people; person++) {
+            if (wouldBeHeard(person, end - 1)) {
+                gatherSigns(end);
+            }
+        }
         int where = NONE;
         int most = 0;
         for (int place = now.length; place < end; place++) {
@@ -561,18 +569,10 @@ public final class TownTune {
         return what == 0 ? where : most;
     }
 
-    /** Row cells: which signs (as bits, the highest for none) those who may be the spy lead to. */
-    private void gatherUnlike(int end) {
+    /** Adds the future's signs to the row, as bits, that above all signs for none. */
+    private void gatherSigns(int end) {
         for (int place = now.length; place < end; place++) {
-            row[place] = 0;
-        }
-        future.copyTune(now);
-        for (int person = 0; person < told.people; person++) {
-            if (wouldBeHeard(person, end - 1)) {
-                for (int place = now.length; place < end; place++) {
-                    row[place] |= 1 << (place < future.length ? future.signs[place] : SIGNS);
-                }
-            }
+            row[place] |= 1 << (place < future.length ? future.signs[place] : SIGNS);
         }
     }
 
@@ -693,7 +693,8 @@ public final class TownTune {
             if (after >= length) {
                 kind = END;
             } else if (isLetter(text[after])) {
-                readWord();
+                passLetters();
+                kind = wordKind();
             } else if (isDigit(text[after])) {
                 readNumber();
             } else {
@@ -741,17 +742,13 @@ public final class TownTune {
             }
         }
 
-        private void readWord() {
+        private void passLetters() {
             while (after < length && isLetter(text[after])) {
                 after++;
             }
-            kind = lineWord();
-            if (kind == UNKNOWN_WORD) {
-                kind = ruleWord();
-            }
         }
 
-        private int lineWord() {
+        private int wordKind() {
             if (spells("elder")) { return ELDER; }
             if (spells("child")) { return CHILD; }
             if (spells("deaf")) { return DEAF; }
@@ -759,14 +756,10 @@ public final class TownTune {
             if (spells("feud")) { return FEUD; }
             if (spells("other")) { return OTHER; }
             if (spells("sings")) { return SINGS; }
-            if (spells("key")) { return KEY; }
-            return UNKNOWN_WORD;
-        }
-
-        private int ruleWord() {
             if (spells("or")) { return OR; }
             if (spells("and")) { return AND; }
             if (spells("not")) { return NOT; }
+            if (spells("key")) { return KEY; }
             if (spells("year")) { return YEAR; }
             if (spells("base")) { return BASE; }
             if (spells("last")) { return LAST; }
@@ -1341,7 +1334,11 @@ public final class TownTune {
                     return (ahead + TRITONE) % OCTAVE;
                 }
             }
-            int note = Math.floorMod(plainNote(town, person), OCTAVE);
+            int note = base[person];
+            if (town.kind[person] != DEAF_KIND) {
+                note = town.rule.size == 0 ? note + key : town.rule.worth(town, this, person);
+            }
+            note = Math.floorMod(note, OCTAVE);
             if (town.kind[person] == CHILD_KIND) {
                 note += FIFTH;
             }
@@ -1349,13 +1346,6 @@ public final class TownTune {
                 note += OCTAVE - 1;
             }
             return note % OCTAVE;
-        }
-
-        private int plainNote(Town town, int person) {
-            if (town.kind[person] == DEAF_KIND) {
-                return base[person];
-            }
-            return town.rule.size == 0 ? base[person] + key : town.rule.worth(town, this, person);
         }
 
         /** What a word of the rule is worth to this person now. */

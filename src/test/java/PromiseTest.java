@@ -113,6 +113,13 @@ final class PromiseTest {
         fault("key\t1;", 1, 3);
         fault("key 1;\377", 1, 6);
         fault("keys 1;", 1, 0);
+        fault("\0", 1, 0);
+        fault("key 1;\0key 1;", 1, 6);
+        fault("key \1;", 1, 4);
+        fault("key \2;", 1, 4);
+        fault("key `;", 1, 4);
+        fault("key {;", 1, 4);
+        fault("key :;", 1, 4);
         fault("elder", 1, 5);
         fault("elder  ", 1, 7);
         fault("elder 0 1 0", 1, 11);
@@ -172,6 +179,8 @@ final class PromiseTest {
         fault("sings 10000;", 2, 6);
         fault("sings 1;sings 2;", 5, 8);
         fault("sings x;", 3, 6);
+        fault("sings a;", 3, 6);
+        fault("sings z;", 3, 6);
         fault("sings or;", 3, 6);
         fault("sings elder;", 3, 6);
         fault("sings 1 or;", 1, 10);
@@ -255,6 +264,9 @@ final class PromiseTest {
         due("3 told", 4, () -> x.count(2));
         due("3 nobody any more", NO_SUCH, () -> x.person(0, 0));
         due("3 an empty text", 0, () -> x.town(0));
+        TownTune twice = of("elder 0 1 0;sings last + 1;", 3);
+        Check.tell(twice, "elder 0 1 0;sings last + 1;key 7;");
+        due("3 the tune is empty: no last note", 8, () -> twice.then(0));
     }
 
     private static void counting() {
@@ -555,6 +567,28 @@ final class PromiseTest {
         }
         due("16 the older ones stay", 1, () -> many.count(7));
         due("16 no more", NONE, many::undo);
+        TownTune unlike = of("elder 0 1 0;elder 1 2 4;elder 2 3 7;elder 3 4 0;feud 0 1;feud 0 2;feud 3 0;");
+        unlike.years(1);
+        for (int i = 0; i < 20; i++) {
+            unlike.away(i % 3, i % 6 < 3);
+            unlike.years(1);
+        }
+        unlike.peace(0);
+        unlike.undo();
+        due("16 first ones", 3, () -> unlike.feud(2, 0));
+        due("16 second ones", 2, () -> unlike.feud(1, 1));
+        due("16 those behind", 0, () -> unlike.feud(2, 1));
+        for (int i = 0; i < 39; i++) {
+            unlike.undo();
+        }
+        due("16 no more are kept", NONE, unlike::undo);
+        due("16 the two oldest of 42 stay: a year", 1, () -> unlike.count(3));
+        due("16 its signs", 4, () -> unlike.count(4));
+        due("16 and one who went", 1, () -> unlike.count(7));
+        TownTune one = of("elder 0 1 0;sings last + 2;key 1;", 1);
+        one.years(1);
+        one.undo();
+        due("16 last is the tune's first note", 5, () -> one.then(1));
         TownTune last = of("elder 0 1 0;sings last + 2;key 1;", 2);
         last.years(2);
         last.undo();
@@ -751,6 +785,8 @@ final class PromiseTest {
         // Each is a foe of the next, so two of the three must go.
         TownTune foes = of("elder 0 1 0;elder 0 2 0;elder 0 3 0;feud 0 1;feud 1 2;feud 0 2;");
         due("28 two of three", 3, () -> foes.quiet(3));
+        TownTune third = of("elder 0 1 0;elder 0 3 0;elder 0 2 6;");
+        due("28 one, though two would be less as bits", 4, () -> third.quiet(2));
         foes.dies(0);
         due("28 the dead need not", 2, () -> foes.quiet(3));
         foes.away(1, true);
@@ -773,6 +809,11 @@ final class PromiseTest {
         due("29 away", NONE, later::match);
         TownTune one = of("elder 0 1 0;elder 0 2 0;other 7;");
         due("29 of one house", NONE, one::match);
+        // Behind the foe's 6 comes 0, and 6 again, whatever the key is.
+        TownTune foes = of("elder 0 1 0;elder 1 2 0;feud 0 1;other 7 7 7 7;", 1);
+        due("29 foes sing on from the tune", NONE, foes::match);
+        TownTune full = of("elder 0 1 0;elder 1 2 0;other" + " 0".repeat(20) + " 7 7 7 7;", 10);
+        due("29 24 signs of the other tune", 1, full::match);
         // Five years bring ten signs, not twelve.
         TownTune five = of("elder 0 1 0;elder 1 2 0;other 0 7;sings (year=5)*key;");
         due("29 five years", NONE, five::match);
@@ -925,6 +966,14 @@ final class PromiseTest {
         TownTune ahead = of("elder 0 1 0;elder 1 2 3;elder 2 3 6;", 1);
         due("35 nobody of house 0 may be missed", 2, () -> ahead.game(1, 0, 0));
         due("35 without a tune any may", 4, () -> of("elder 0 1 0;elder 1 2 3;elder 2 3 6;").game(2, 1, 0));
+        StringBuilder eight = new StringBuilder();
+        for (int i = 1; i <= 8; i++) {
+            eight.append("elder 3 ").append(i).append(" 1;");
+        }
+        due("35 all of one house", 9, () -> of(eight.toString()).game(3, 0, 0));
+        due("35 of the other one", 9, () -> of(eight.toString()).game(0, 3, 0));
+        TownTune eighth = of(eight.toString().replace("elder 3 8 1", "elder 3 8 0") + "key 11;sings base;");
+        due("35 none gains", 9, () -> eighth.game(3, 0, 0));
         TownTune gone = of("elder 0 1 0;elder 1 2 7;");
         gone.away(0, true);
         due("35 who is away can't be sent", 2, () -> gone.game(0, 1, 0));
@@ -1002,5 +1051,17 @@ final class PromiseTest {
         x.restore();
         due("37 in place of another", 3, () -> x.count(3));
         due("37 acts too", 2, () -> x.count(10));
+        TownTune y = of("elder 0 1 0;elder 1 2 5;sings year + base;", 3);
+        y.image();
+        for (int i = 0; i < 3; i++) {
+            y.undo();
+        }
+        y.dies(0);
+        y.years(7);
+        y.restore();
+        Check.dueTune("38 all signs", "051627", y);
+        due("38 whose", 0, () -> y.sign(2, 1));
+        due("38 in which year", 1, () -> y.sign(2, 2));
+        due("38 the last one's year", 2, () -> y.sign(5, 2));
     }
 }
