@@ -329,7 +329,7 @@ public final class TownTune {
         needWhat(what, 1);
         int longest = 0;
         int where = NONE;
-        // Row cell i: how many signs from i on stand also from another, later place on.
+        // Row cell i: how many signs from i on are those from the place in hand on.
         for (int i = 0; i <= now.length; i++) {
             row[i] = 0;
         }
@@ -343,7 +343,7 @@ public final class TownTune {
         return what == 0 ? longest : where;
     }
 
-    /** Turns the row from that of the next place to that of this one: its greatest cell behind. */
+    /** Makes this place's row of the next place's one, and answers its greatest cell. */
     private int meetLater(int place) {
         int most = 0;
         int sign = now.signs[place];
