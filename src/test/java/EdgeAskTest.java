@@ -15,6 +15,7 @@ final class EdgeAskTest extends Edge {
         foundPlaces();
         againWhat();
         againPlaces();
+        againLater();
         fullOfOneNote();
         tritones();
         intervals();
@@ -152,6 +153,22 @@ final class EdgeAskTest extends Edge {
         again("3401251263478", 2, 0);
         again("9123812371236", 3, 1);
         again("7112113", 2, 1);
+    }
+
+    private static void againLater() {
+        says(18, "0: nothing comes again");
+        TownTune x = of("deaf 0 1 5;", 80);
+        due("79 of 80", 79, () -> x.again(0));
+        for (int i = 0; i < 4; i++) {
+            x.undo();
+        }
+        due("all is undone", 0, () -> x.again(0));
+        x.years(1);
+        due("one sign", 0, () -> x.again(0));
+        x.years(1);
+        due("two signs", 1, () -> x.again(0));
+        x.listen(0);
+        due("two signs behind what was listened for", 1, () -> x.again(0));
     }
 
     private static void fullOfOneNote() {
@@ -589,6 +606,9 @@ final class EdgeAskTest extends Edge {
         due("in the year 7 from the year 3 on", 1, of(two + "7);", 3)::match);
         due("in the year 8 from the year 3 on", NONE, of(two + "8);", 3)::match);
         due("in the year 2, that is over", NONE, of(two + "2);", 3)::match);
+        // 0 6 now; foes sing 0 6 on, whatever the KEY is.
+        due("behind the foe who ends the tune", NONE, of("elder 0 1 0;elder 1 2 0;feud 0 1;other 7 1;", 1)::match);
+        due("without a tune", 1, of("elder 0 1 0;elder 1 2 0;feud 0 1;other 7 1;")::match);
     }
 
     private static void matchFirst() {

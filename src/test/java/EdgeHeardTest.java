@@ -38,6 +38,7 @@ final class EdgeHeardTest extends Edge {
         centuryFull();
         imageAndRestore();
         imageKeeps();
+        imageOfAnotherTune();
         imageGone();
         end("EdgeHeardTest", args);
     }
@@ -277,6 +278,17 @@ final class EdgeHeardTest extends Edge {
         listens("from the end on", x, 3, 2);
         TownTune one = of("deaf 0 1 5;", 7);
         listens("of one alone the first place", one, 7, 1);
+        TownTune sung = of(CHORD, 1);
+        sung.hear(1, 4);
+        listens("what is heard is sung already", sung, 3, 2);
+        TownTune foes = of("deaf 0 1 1;deaf 0 2 2;feud 0 1;", 1);
+        listens("behind a foe who ends the tune nobody is unlike", foes, 2, 1);
+        TownTune shorter = of("deaf 0 1 5;", 80);
+        shorter.again(0);
+        for (int i = 0; i < 4; i++) {
+            shorter.undo();
+        }
+        listens("of one alone, when a longer tune is undone", shorter, 0, 1);
         // The bearer of the base that is due sings by 'last' in a year; all others sing 0.
         String eight = "elder 0 1 0;elder 0 2 1;elder 0 3 2;elder 0 4 3;elder 0 5 4;elder 0 6 5;elder 0 7 6;"
                 + "elder 0 8 7;sings (year=%d)*(base=%d)*last*3;";
@@ -745,6 +757,32 @@ final class EdgeHeardTest extends Edge {
         due("forty acts are UNDONE: one was away from the first", 8, () -> x.count(7));
         due("and no more", NONE, x::undo);
         due("the years were none of them", 2, () -> x.count(3));
+    }
+
+    private static void imageOfAnotherTune() {
+        says(37, "AN IMAGE keeps all that ACTS change");
+        TownTune x = of("elder 0 1 0;elder 1 2 5;sings year + base;", 3);
+        x.image();
+        x.undo();
+        x.dies(0);
+        x.years(7);
+        x.restore();
+        dueTune("signs that were sung over", "051627", x);
+        due("whose", 0, () -> x.sign(2, 1));
+        due("in which year", 1, () -> x.sign(2, 2));
+        due("the last one's", 1, () -> x.sign(5, 1));
+        due("its year", 2, () -> x.sign(5, 2));
+        due("signs of one", 3, () -> x.person(0, 4));
+        due("what comes then", 3, () -> x.then(6));
+        TownTune last = of("elder 0 1 0;sings last + 1;key 4;", 2);
+        last.image();
+        last.away(0, true);
+        last.years(1);
+        last.undo();
+        last.undo();
+        last.undo();
+        last.restore();
+        due("the last NOTE", 7, () -> last.then(2));
     }
 
     private static void imageGone() {

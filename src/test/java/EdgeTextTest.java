@@ -202,6 +202,25 @@ final class EdgeTextTest extends Edge {
         due("no sign", NO_SUCH, () -> x.sign(0, 0));
         due("no other tune", NO_SUCH, () -> x.other(0));
         due("all that is heard would be so", 2, () -> x.spy(0));
+        says(3, "are a TOWN, all anew");
+        TownTune third = of("elder 1 2 3;elder 0 1 3;feud 0 1;key 4;other 1 2;sings 5;");
+        Check.tell(third, "deaf 1 2 3;deaf 0 1 3;feud 0 1;key 4;other 1 2;sings 5;");
+        due("a third text", 0, () -> Check.tell(third, "elder 2 1 3;"));
+        int[] one = {1, 0, 0, 0, 0, 0};
+        for (int i = 0; i < one.length; i++) {
+            int what = i;
+            due("its count " + what, one[what], () -> third.count(what));
+        }
+        due("its rule", 3, () -> third.then(0));
+        for (String faulty : new String[] {"elder 0 1 0;key 2;other 1;sings 5;?", "sings (1+", "sings ((((((1",
+            "sings not not (1 or", "sings 1;feud"}) {
+            due(faulty, 1, () -> Math.min(1, Check.tell(third, faulty)));
+            due("a text behind that", 0, () -> Check.tell(third, "elder 2 1 3;sings 1+2*3;"));
+            due("its people", 1, () -> third.count(0));
+            due("its key", 0, () -> third.count(2));
+            due("its other tune", 0, () -> third.count(5));
+            due("its own rule", 7, () -> third.then(0));
+        }
         TownTune same = of("elder 0 1 0;", 3);
         same.image();
         same.years(3);
@@ -372,10 +391,32 @@ final class EdgeTextTest extends Edge {
         good("sings not key;");
         fault("sings 1 orx 1;", 1, 8);
         fault("sings 1or1and1;x", 1, 15);
+        for (String word : new String[] {"elder", "child", "deaf", "spy", "key", "feud", "other", "sings"}) {
+            for (int i = 0; i < word.length(); i++) {
+                fault(misspelt(word, i) + " 0 1 0;", 1, 0);
+            }
+            fault(word + "a 0 1 0;", 1, 0);
+            fault(word.substring(1) + " 0 1 0;", 1, 0);
+        }
+        for (String word : new String[] {"year", "base", "last", "key", "house", "kind", "sung", "not"}) {
+            for (int i = 0; i < word.length(); i++) {
+                fault("sings " + misspelt(word, i) + " 1;", 3, 6);
+            }
+            fault("sings " + word + "a 1;", 3, 6);
+        }
+        for (String word : new String[] {"and", "or"}) {
+            for (int i = 0; i < word.length(); i++) {
+                fault("sings 1 " + misspelt(word, i) + " 1;", 1, 8);
+            }
+        }
         fault("Elder 0 1 0;", 1, 0);
         fault("eldeR 0 1 0;", 1, 0);
         fault("sings keY;", 3, 6);
         fault("sings YEAR;", 1, 6);
+    }
+
+    private static String misspelt(String word, int place) {
+        return word.substring(0, place) + 'q' + word.substring(place + 1);
     }
 
     private static void numbers() {

@@ -29,6 +29,7 @@ final class EdgeTuneTest extends Edge {
         quarrelling();
         sixFeuds();
         peace();
+        numbersOfOne();
         undoing();
         actsKept();
         oldestActs();
@@ -518,6 +519,36 @@ final class EdgeTuneTest extends Edge {
         stays("none is left", x, ACTS_REFUSED, 0, () -> is(x.peace(0)));
         due("none", 0, () -> x.count(1));
 
+        for (int ended = 0; ended < 6; ended++) {
+            numbersBehind(ended);
+        }
+    }
+
+    private static void numbersBehind(int ended) {
+        says(15, "(numbers behind it are one less)");
+        int[][] six = {{0, 7}, {6, 1}, {2, 3}, {4, 5}, {7, 2}, {5, 0}};
+        StringBuilder text = new StringBuilder(elders(8));
+        for (int[] feud : six) {
+            text.append("feud ").append(feud[0]).append(' ').append(feud[1]).append(';');
+        }
+        TownTune x = of(text.toString());
+        x.peace(ended);
+        for (int i = 0; i < 5; i++) {
+            int feud = i;
+            int[] told = six[i < ended ? i : i + 1];
+            due(ended + " ended, the first one of " + feud, told[0], () -> x.feud(feud, 0));
+            due(ended + " ended, the second one of " + feud, told[1], () -> x.feud(feud, 1));
+        }
+        due("no sixth", NO_SUCH, () -> x.feud(5, 0));
+        x.undo();
+        for (int i = 0; i < 6; i++) {
+            int feud = i;
+            due(ended + " UNDONE, the first one of " + feud, six[i][0], () -> x.feud(feud, 0));
+            due(ended + " UNDONE, the second one of " + feud, six[i][1], () -> x.feud(feud, 1));
+        }
+    }
+
+    private static void numbersOfOne() {
         says(15, "(numbers behind it are one less)");
         TownTune y = of(elders(7) + "feud 0 1;feud 0 2;feud 0 3;feud 0 4;feud 0 5;feud 0 6;");
         y.peace(2);

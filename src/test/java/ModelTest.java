@@ -12,6 +12,8 @@ final class ModelTest {
     private final Model m = new Model();
     private final StringBuilder log = new StringBuilder();
     private boolean same = true;
+    /** An object answers 512 calls: what comes later is free. */
+    private int callsLeft = 512;
 
     private ModelTest(int seed) {
         random = new Random(seed);
@@ -54,6 +56,10 @@ final class ModelTest {
     }
 
     private void compare(String name, Check.Call a, Check.Call b) {
+        if (callsLeft == 0) {
+            return;
+        }
+        callsLeft--;
         long want = Check.answer(b);
         String got;
         try {
@@ -66,6 +72,11 @@ final class ModelTest {
         }
         log.append(name).append(" -> ").append(got);
         log.append(same ? "" : ", the model's is " + Check.told(want)).append('\n');
+    }
+
+    private static long done(Runnable call) {
+        call.run();
+        return 0;
     }
 
     private String expr(int depth) {
@@ -227,9 +238,7 @@ final class ModelTest {
                 break;
             default:
                 if (r(2) == 0) {
-                    log.append("image()\n");
-                    x.image();
-                    m.image();
+                    compare("image()", () -> done(x::image), () -> done(m::image));
                 } else {
                     compare("restore()", () -> x.restore() ? 1 : 0, m::restore);
                 }
@@ -332,9 +341,7 @@ final class ModelTest {
             case 8:
                 compare("listen(" + what + ")", () -> x.listen(what), () -> m.listen(what));
                 if (r(4) == 0) {
-                    log.append("forget()\n");
-                    x.forget();
-                    m.forget();
+                    compare("forget()", () -> done(x::forget), () -> done(m::forget));
                 }
                 break;
             case 9:
