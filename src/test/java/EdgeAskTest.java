@@ -389,6 +389,8 @@ final class EdgeAskTest extends Edge {
         stays("place 399", x, NOTHING, NONE, () -> x.then(399));
         due("the last that is sung", 2, () -> x.then(2));
         due("the first to come", 3, () -> x.then(3));
+        TownTune foes = of("deaf 0 1 1;deaf 0 2 2;deaf 0 3 3;feud 0 2;", 1);
+        due("the first to come behind a foe's", 9, () -> foes.then(3));
     }
 
     private static void twentyYearsOn() {

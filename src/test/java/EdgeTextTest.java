@@ -186,6 +186,7 @@ final class EdgeTextTest extends Edge {
         x.marry(1, 0);
         x.away(0, false);
         x.marry(1, 0);
+        x.away(0, true);
         x.dies(1);
         x.hear(3, 4);
         x.image();
@@ -199,6 +200,7 @@ final class EdgeTextTest extends Edge {
         due("no image", 0, () -> is(x.restore()));
         due("no signs of one", 0, () -> x.person(0, 4));
         due("no SINGS", 3, () -> x.then(0));
+        due("no spy", 3, () -> x.then(1));
         due("no sign", NO_SUCH, () -> x.sign(0, 0));
         due("no other tune", NO_SUCH, () -> x.other(0));
         due("all that is heard would be so", 2, () -> x.spy(0));
@@ -227,6 +229,9 @@ final class EdgeTextTest extends Edge {
         due("the same TOWN again", 0, () -> Check.tell(same, "elder 0 1 0;"));
         due("its tune", 0, () -> same.count(4));
         due("its image", 0, () -> is(same.restore()));
+        TownTune last = of("elder 0 1 0;sings last+1;key 4;", 3);
+        Check.tell(last, "elder 0 1 0;sings last+1;key 9;");
+        due("no NOTE ahead any more", 10, () -> last.then(0));
     }
 
     private static void faultPlaces() {

@@ -324,6 +324,17 @@ final class EdgeTuneTest extends Edge {
         x.undo();
         x.undo();
         due("undone: none ahead again", 5, () -> x.then(1));
+        TownTune undone = of("elder 0 1 0;sings last+2;key 4;", 1);
+        undone.years(1);
+        due("two notes: 6 8", 10, () -> undone.then(2));
+        undone.undo();
+        due("the second one is undone", 8, () -> undone.then(1));
+        undone.away(0, true);
+        undone.years(2);
+        undone.years(1);
+        undone.undo();
+        undone.away(0, false);
+        due("rests, of which one is undone", 8, () -> undone.then(3));
         TownTune married = of("elder 0 1 0;elder 1 2 0;sings last;key 4;");
         married.marry(0, 1);
         due("the KEY as it is now", 11, () -> married.then(0));
@@ -440,6 +451,12 @@ final class EdgeTuneTest extends Edge {
         due("all but one are married", 15, () -> y.count(9));
         TownTune foes = of("elder 0 1 0;elder 1 2 0;feud 0 1;");
         due("foes may", 7, () -> foes.marry(0, 1));
+        TownTune undone = of(HOUSES);
+        undone.marry(2, 3);
+        undone.marry(0, 1);
+        undone.undo();
+        due("the others stay married", 12, () -> undone.count(9));
+        due("whose marriage is UNDONE may again", 2, () -> undone.marry(1, 0));
 
         says(13, "the second one is of the first one's HOUSE");
         TownTune houses = of(HOUSES);
@@ -671,6 +688,7 @@ final class EdgeTuneTest extends Edge {
         due("the marriage", 4, x::undo);
         due("the house", 1, () -> x.person(1, 1));
         due("the key", 9, () -> x.count(2));
+        due("unmarried", 0, () -> x.count(9));
         due("the feud", 3, x::undo);
         due("one is left", 1, () -> x.count(1));
         due("that of 2 and 3", 2, () -> x.feud(0, 0));
