@@ -326,6 +326,8 @@ final class EdgeAskTest extends Edge {
         TownTune x = song("123", "other 1 3;");
         due("like", 2, () -> x.like(0));
         due("apart", 1, () -> x.like(1));
+        due("apart again", 1, () -> x.like(1));
+        due("like behind that", 2, () -> x.like(0));
         for (int what : new int[] {MIN, -1, 2, MAX}) {
             stays("what " + what, x, NOTHING, NO_SUCH, () -> x.like(what));
         }
@@ -351,6 +353,12 @@ final class EdgeAskTest extends Edge {
         due("24 of 24", 24, () -> of("deaf 0 1 7;" + all, 24).like(0));
         due("24 of more", 24, () -> of("deaf 0 1 7;" + all, 25).like(0));
         due("in 400", 24, () -> of("deaf 0 1 7;" + all, 400).like(0));
+        TownTune less = of("deaf 0 1 7;" + all, 24);
+        due("24", 24, () -> less.like(0));
+        less.undo();
+        due("20, when four are undone", 20, () -> less.like(0));
+        less.undo();
+        due("0, when all is undone", 0, () -> less.like(0));
         due("from the first to the 400th", 3,
                 () -> of("elder 0 1 0;sings (year=0)+2*(year=399);other 1 0 2;", 400).like(0));
     }
@@ -373,7 +381,8 @@ final class EdgeAskTest extends Edge {
         due("be another", 1, () -> song("143", "other 1 2 3;").like(1));
         due("come in ahead", 1, () -> song("23", "other 1 2 3;").like(1));
         due("come in between", 1, () -> song("13", "other 1 2 3;").like(1));
-        due("lost and come in", 2, () -> song("234", "other 1 2 3;").like(1));
+        due("come in ahead, lost at the end", 2, () -> song("234", "other 1 2 3;").like(1));
+        due("lost ahead, come in at the end", 2, () -> song("412", "other 1 2 3;").like(1));
         due("all others", 3, () -> song("456", "other 1 2 3;").like(1));
         due("rests are signs", 1, () -> song("1.3", "other 1 2 3;").like(1));
         due("a rest is a rest", 0, () -> song("1.3", "other 1 12 3;").like(1));
@@ -564,6 +573,8 @@ final class EdgeAskTest extends Edge {
         due("no other tune", NONE, of(two)::match);
         due("nobody", NONE, new TownTune()::match);
         due("one more of 24", 1, of(two + "other" + " 0".repeat(23) + " 7;", 12)::match);
+        due("all 24 already, the last one a 7", NONE,
+                of(two + "other" + " 0".repeat(23) + " 7;sings (year=12)*(7-key)+key;", 13)::match);
         due("all 24 already", NONE, of(two + "other" + " 0".repeat(24) + ";", 12)::match);
         due("a full tune", NONE, of(two + "other 7;", 200)::match);
         due("a sign is missing", 1, of("elder 0 2 0;elder 1 1 0;elder 0 3 0;other 7;", 133)::match);

@@ -465,6 +465,11 @@ final class EdgeHeardTest extends Edge {
         due("none and eight", 9, () -> of(seven + "deaf 0 8 1;").game(1, 0, 0));
         due("seven and one", 16, () -> of(seven + "deaf 1 8 1;").game(0, 1, 0));
         due("nobody at all", 1, () -> new TownTune().game(2, 3, 0));
+        // 3 3 6, and . 0 6 with a tritone, if the second one sends its only one.
+        TownTune sends = of("deaf 1 1 3;elder 2 2 0;deaf 2 3 6;sings last;");
+        due("the second one sends one", 1, () -> sends.game(0, 1, 0));
+        due("that is the first", 1, () -> sends.game(0, 1, 1));
+        due("an empty house has nobody to send then", 1, () -> sends.game(0, 3, 0));
         due("nobody of these", 1, () -> of(CHORD + "deaf 1 9 1;").game(3, 0, 1) + 1);
     }
 
@@ -719,8 +724,9 @@ final class EdgeHeardTest extends Edge {
         for (int i = 0; i < 40; i++) {
             x.away(2, i % 2 == 0);
         }
+        int[] sung = {2, 8, 9};
         for (int i = 0; i < 9; i++) {
-            x.hear(0, 2);
+            x.hear(i % 3, sung[i % 3]);
         }
         x.years(0);
         Check.tell(x, "?");
@@ -736,7 +742,8 @@ final class EdgeHeardTest extends Edge {
         x.quarrel(0, 3);
         x.years(20);
         x.forget();
-        x.hear(0, 0);
+        x.hear(7, 0);
+        x.hear(6, 0);
         x.hear(-1, 0);
         x.years(0);
         Check.tell(x, "?");

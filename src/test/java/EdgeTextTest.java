@@ -214,7 +214,7 @@ final class EdgeTextTest extends Edge {
             due("its count " + what, one[what], () -> third.count(what));
         }
         due("its rule", 3, () -> third.then(0));
-        for (String faulty : new String[] {"elder 0 1 0;key 2;other 1;sings 5;?", "sings (1+", "sings ((((((1",
+        for (String faulty : new String[] {"elder 0 1 0;key 2;other 1;sings 5;?", "sings (1+", "sings 1*", "sings ((((((1",
             "sings not not (1 or", "sings 1;feud"}) {
             due(faulty, 1, () -> Math.min(1, Check.tell(third, faulty)));
             due("a text behind that", 0, () -> Check.tell(third, "elder 2 1 3;sings 1+2*3;"));
@@ -222,6 +222,9 @@ final class EdgeTextTest extends Edge {
             due("its key", 0, () -> third.count(2));
             due("its other tune", 0, () -> third.count(5));
             due("its own rule", 7, () -> third.then(0));
+            Check.tell(third, faulty);
+            due("a text that begins with a 'not'", 0, () -> Check.tell(third, "elder 2 1 3;sings not 0;"));
+            due("its rule too", 1, () -> third.then(0));
         }
         TownTune same = of("elder 0 1 0;", 3);
         same.image();

@@ -34,6 +34,7 @@ final class EdgeTuneTest extends Edge {
         actsKept();
         oldestActs();
         actsUndoneInOrder();
+        undoneOneByOne();
         refusedActs();
         end("EdgeTuneTest", args);
     }
@@ -702,6 +703,56 @@ final class EdgeTuneTest extends Edge {
         due("the first year", 0, x::undo);
         due("no signs", 0, () -> x.count(4));
         due("nor of one", 0, () -> x.person(3, 4));
+    }
+
+    /** All that ACTS change. */
+    private static String all(TownTune x) {
+        StringBuilder b = new StringBuilder(Check.tune(x));
+        for (int what = 0; what < 10; what++) {
+            b.append(' ').append(x.count(what));
+        }
+        for (int person = 0; person < x.count(0); person++) {
+            b.append(' ').append(x.person(person, 1)).append(' ').append(x.person(person, 4));
+        }
+        for (int feud = 0; feud < x.count(1); feud++) {
+            b.append(' ').append(x.feud(feud, 0)).append(' ').append(x.feud(feud, 1));
+        }
+        return b.toString();
+    }
+
+    private interface Act {
+        long on(TownTune x);
+    }
+
+    private static void undoneAlone(String at, Act act) {
+        for (int years = 0; years < 3; years++) {
+            TownTune x = of(HOUSES + "elder 1 5 3;feud 0 1;feud 2 3;key 6;sings last+sung;", years);
+            x.away(2, true);
+            x.marry(0, 1);
+            int kept = x.count(10);
+            String before = all(x);
+            act.on(x);
+            String between = all(x);
+            due(at + ", how many are left", kept, x::undo);
+            String after = all(x);
+            due(at + " changes something", 0, () -> is(before.equals(between)));
+            due(at + " leaves " + after + " for " + before, 1, () -> is(before.equals(after)));
+        }
+    }
+
+    private static void undoneOneByOne() {
+        says(16, "The last ACT is UNDONE");
+        undoneAlone("a year", x -> x.years(1));
+        undoneAlone("twenty years", x -> x.years(20));
+        undoneAlone("going", x -> is(x.away(3, true)));
+        undoneAlone("coming home", x -> is(x.away(2, false)));
+        undoneAlone("a death", x -> is(x.dies(3)));
+        undoneAlone("a death away", x -> is(x.dies(2)));
+        undoneAlone("a marriage", x -> x.marry(3, 4));
+        undoneAlone("a marriage the other way round", x -> x.marry(4, 3));
+        undoneAlone("a quarrel", x -> x.quarrel(4, 0));
+        undoneAlone("a peace", x -> is(x.peace(0)));
+        undoneAlone("the last peace", x -> is(x.peace(1)));
     }
 
     private static void refusedActs() {
