@@ -82,6 +82,7 @@ final class EdgeAskTest extends Edge {
         due("seven of eight rests", 2, () -> song("........").found(THIRTEENS[7] - 1, 7, 0));
         due("seven of six rests", 0, () -> song("......").found(THIRTEENS[7] - 1, 7, 0));
         due("seven zeros", 1, () -> song("0000000").found(0, 7, 0));
+        says(17, "told as a number by thirteens (the first one the highest digit) and how many there are");
         due("zeros ahead count", 1, () -> song("05005").found(phrase("005"), 3, 0));
         due("the first is the highest digit", 1, () -> song("123").found(169 + 2 * 13 + 3, 3, 0));
         due("not the lowest", 0, () -> song("123").found(3 * 169 + 2 * 13 + 1, 3, 0));
@@ -581,6 +582,9 @@ final class EdgeAskTest extends Edge {
     }
 
     private static void matchWho() {
+        says(29, "10 by the one and the other; none");
+        due("none", NONE, of("elder 0 1 0;other 7;")::match);
+        due("0 and 1", 1, of("elder 0 1 0;elder 1 2 0;other 7;")::match);
         says(29, "of couples who may MARRY (each either way round)");
         String two = "elder 0 1 0;elder 1 2 0;other 7;";
         due("of one house", NONE, of("elder 1 1 0;elder 1 2 0;other 7;")::match);

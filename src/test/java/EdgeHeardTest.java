@@ -60,6 +60,21 @@ final class EdgeHeardTest extends Edge {
     }
 
     private static void eightHeard() {
+        says(30, "that the sign at a place (0 to 399)");
+        TownTune ends = of("deaf 0 1 0;", 399);
+        ends.hear(0, 0);
+        ends.hear(399, 0);
+        due("both ends are so", 1, () -> ends.spy(2));
+        says(30, "NOTES are 0 to 11, a REST is 12.");
+        for (int sign = 0; sign <= 12; sign++) {
+            TownTune sung = song("" + "0123456789ab.".charAt(sign));
+            int s = sign;
+            due("heard " + s, 1, () -> sung.hear(0, s));
+            due("it is so " + s, 1, () -> sung.spy(2));
+            sung.forget();
+            sung.hear(0, (s + 1) % 13);
+            due("it isn't the next one " + s, 0, () -> sung.spy(2));
+        }
         says(30, "HEARD (at most 8)");
         TownTune x = of(CHORD);
         for (int i = 1; i <= 8; i++) {
@@ -266,7 +281,8 @@ final class EdgeHeardTest extends Edge {
         x.hear(0, 11);
         listens("one", x, 0, 1);
         x.hear(1, 3);
-        listens("none without any", x, NONE, 0);
+        says(32, "none without any");
+        listens("of nobody all would be so", x, NONE, 0);
         listens("nobody", new TownTune(), NONE, 0);
         stays("nothing changes", x, NOTHING, NONE, () -> x.listen(0));
     }
@@ -529,6 +545,12 @@ final class EdgeHeardTest extends Edge {
         due("the first is sent", 10, () -> one.game(0, 1, 1));
         due("the other one's two choices", 2, () -> one.game(0, 1, 0));
         due("neither is sent", 0, () -> of(CHORD).game(0, 1, 1));
+        says(35, "A couple RESTS, if neither gains more by another choice");
+        // 0 6 0: the first one loses a gain with its first, the second one both tritones with its only one.
+        TownTune rests = of("deaf 0 1 0;deaf 0 2 6;deaf 1 3 0;");
+        due("as much by another choice is no more", 3, () -> rests.game(0, 1, 0));
+        due("nobody and nobody", 0, () -> rests.game(0, 1, 1));
+        due("the other way round", 1, () -> rests.game(1, 0, 0));
         says(35, "NONE: none");
         // b 5 6 7: 1 and 1; . 6 7 7: 2 and 0; b . 0 7: 2 and 0; . . 1 7: 1 and 1. One would always change.
         TownTune none = of("deaf 0 1 11;deaf 1 2 6;elder 2 3 11;deaf 2 4 7;feud 0 1;sings last+1;");
@@ -636,6 +658,7 @@ final class EdgeHeardTest extends Edge {
         centuries("10 to 11", "deaf 0 1 10;", new int[] {10}, 11);
         says(36, "0 one EMIGRATES, or comes home, 1 one DIES");
         centuries("a rest", "deaf 0 1 3;", new int[] {3}, 12);
+        says(36, "(the DEAD stay so)");
         TownTune dead = of("deaf 0 1 3;", 2);
         dead.dies(0);
         for (int seed : SEEDS) {
@@ -645,6 +668,9 @@ final class EdgeHeardTest extends Edge {
     }
 
     private static void centuryOfEight() {
+        says(36, "A seed becomes itself times 1103515245 and 12345 (an int that wraps); "
+                + "a DRAW of n is its bits 16 to 30 MOD n then.");
+        centuries("of four", "deaf 0 1 11;deaf 0 2 0;deaf 0 3 11;deaf 0 4 11;", new int[] {11, 0, 11, 11}, 0);
         says(36, "ahead of each a DRAW of PEOPLE, then a DRAW of 5");
         int[] bases = {11, 0, 1, 2, 3, 4, 5, 11};
         StringBuilder text = new StringBuilder();

@@ -46,6 +46,8 @@ final class EdgeTextTest extends Edge {
     }
 
     private static void nobody() {
+        says(1, "`NONE = -1`: There is none.");
+        due("NONE", -1, () -> TownTune.NONE);
         says(1, "Nobody.");
         TownTune x = new TownTune();
         for (int what = 0; what < 16; what++) {
@@ -784,6 +786,33 @@ final class EdgeTextTest extends Edge {
         for (int what : new int[] {MIN, -2, -1, 16, 17, MAX}) {
             stays("count " + what, x, NOTHING, NO_SUCH, () -> x.count(what));
         }
+        says(5, "0 PEOPLE, 1 FEUDS, 2 KEY, 3 the YEAR, 4 signs of THE TUNE, 5 signs of THE OTHER TUNE, "
+                + "6 RESTS in THE TUNE");
+        TownTune all = of("elder 0 1 0;elder 1 2 0;elder 2 3 0;key 11;feud 0 1;feud 1 2;other 1 2 3 4 5;");
+        all.away(2, true);
+        all.years(4);
+        int[] first = {3, 2, 11, 4, 12, 5, 4};
+        for (int i = 0; i < first.length; i++) {
+            int what = i;
+            due("count " + what, first[what], () -> all.count(what));
+        }
+        says(5, "10 ACTS that are kept, 11 HEARD, 12 bytes of the tape, 13 to 15 STATUS 0 to 2");
+        all.hear(1, 1);
+        all.hear(1, 2);
+        all.hear(1, 3);
+        all.hear(1, 13);
+        all.years(0);
+        all.years(21);
+        for (int i = 0; i < 3; i++) {
+            Check.tell(all, "?");
+        }
+        Check.feed(all, " ".repeat(40));
+        int[] later = {2, 3, 40, 3, 2, 1};
+        for (int i = 0; i < later.length; i++) {
+            int what = 10 + i;
+            int want = later[i];
+            due("count " + what, want, () -> all.count(what));
+        }
         says(5, "7 who is AWAY (bits), 8 who is DEAD (bits), 9 who is married (bits)");
         TownTune eight = of(elders(7) + "elder 1 8 0;");
         eight.marry(0, 7);
@@ -819,6 +848,28 @@ final class EdgeTextTest extends Edge {
         Check.tell(one, "");
         due("nobody any more", NO_SUCH, () -> one.person(0, 0));
 
+        says(6, "a KIND (0 elder, 1 child, 2 deaf, 3 spy)");
+        TownTune kinds = of("spy 0 1 0;deaf 0 2 0;child 0 3 0;elder 0 4 0;feud 3 0;feud 1 3;");
+        for (int i = 0; i < 4; i++) {
+            int p = i;
+            due("of " + p, 3 - p, () -> kinds.person(p, 0));
+        }
+        says(6, "4 signs in THE TUNE");
+        due("none", 0, () -> kinds.person(0, 4));
+        kinds.years(1);
+        due("one", 1, () -> kinds.person(0, 4));
+        kinds.away(0, true);
+        kinds.years(1);
+        due("a rest is one too", 2, () -> kinds.person(0, 4));
+        kinds.dies(0);
+        kinds.years(1);
+        due("the dead have no more", 2, () -> kinds.person(0, 4));
+        says(6, "6 how many FEUDS");
+        int[] feuds = {1, 1, 0, 2};
+        for (int i = 0; i < 4; i++) {
+            int p = i;
+            due("of " + p, feuds[p], () -> kinds.person(p, 6));
+        }
         says(6, "5 the place among BIRTHDAYS (0 the first)");
         TownTune days = of("elder 0 365 0;elder 0 1 0;elder 0 364 0;elder 0 2 0;");
         int[] places = {3, 0, 2, 1};

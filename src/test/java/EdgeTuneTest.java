@@ -372,6 +372,13 @@ final class EdgeTuneTest extends Edge {
     }
 
     private static void lastYear() {
+        says(10, "YEARS go by (1 to 20)");
+        for (int many = 1; many <= 20; many++) {
+            int m = many;
+            TownTune some = of("deaf 0 1 5;");
+            due(m + " go by", m, () -> some.years(m));
+            due(m + " signs", m, () -> some.count(4));
+        }
         says(10, "it would be above 999");
         TownTune x = of("elder 0 1 0;", 979);
         due("20 up to 999", 999, () -> x.years(20));
@@ -431,6 +438,7 @@ final class EdgeTuneTest extends Edge {
         says(13, "NONE (STATUS 1): both are one, they may not.");
         TownTune x = of(HOUSES + "elder 0 5 0;");
         stays("one", x, ACTS_REFUSED, NONE, () -> x.marry(0, 0));
+        says(13, "two MARRY (PEOPLE at home, not DEAD, of unlike HOUSES, each unmarried)");
         stays("of one house", x, ACTS_REFUSED, NONE, () -> x.marry(0, 4));
         stays("of one house, the other way round", x, ACTS_REFUSED, NONE, () -> x.marry(4, 0));
         x.away(1, true);
@@ -496,6 +504,7 @@ final class EdgeTuneTest extends Edge {
         stays("one", x, ACTS_REFUSED, NONE, () -> x.quarrel(2, 2));
         stays("they have one", x, ACTS_REFUSED, NONE, () -> x.quarrel(0, 1));
         stays("either way round", x, ACTS_REFUSED, NONE, () -> x.quarrel(1, 0));
+        says(14, "a FEUD begins (its number is the next one)");
         due("its number is the next one", 1, () -> x.quarrel(2, 1));
         due("the first one of it", 2, () -> x.feud(1, 0));
         due("the second one of it", 1, () -> x.feud(1, 1));
