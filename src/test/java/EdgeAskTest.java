@@ -576,6 +576,8 @@ final class EdgeAskTest extends Edge {
         due("one more of 24", 1, of(two + "other" + " 0".repeat(23) + " 7;", 12)::match);
         due("all 24 already, the last one a 7", NONE,
                 of(two + "other" + " 0".repeat(23) + " 7;sings (year=12)*(7-key)+key;", 13)::match);
+        due("one more of 24 either way", NONE,
+                of(two + "other" + " 0".repeat(22) + " 5 7;sings (10<year)*(5+(key=7)*2);", 11)::match);
         due("all 24 already", NONE, of(two + "other" + " 0".repeat(24) + ";", 12)::match);
         due("a full tune", NONE, of(two + "other 7;", 200)::match);
         due("a sign is missing", 1, of("elder 0 2 0;elder 1 1 0;elder 0 3 0;other 7;", 133)::match);

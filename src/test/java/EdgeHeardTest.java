@@ -556,6 +556,11 @@ final class EdgeHeardTest extends Edge {
         TownTune none = of("deaf 0 1 11;deaf 1 2 6;elder 2 3 11;deaf 2 4 7;feud 0 1;sings last+1;");
         due("no couple rests", 0, () -> none.game(0, 1, 0));
         due("none is the first", NONE, () -> none.game(0, 1, 1));
+        // Two more, whose own game has more choices, and comes first.
+        TownTune behind = of("deaf 0 1 11;deaf 1 2 6;elder 2 3 11;deaf 2 4 7;deaf 3 6 0;deaf 3 5 2;"
+                + "feud 0 1;feud 4 5;sings last+1;");
+        behind.game(3, 2, 1);
+        due("none is the first behind another game", NONE, () -> behind.game(0, 1, 1));
     }
 
     private static void centuryWhat() {
