@@ -638,6 +638,8 @@ final class EdgeAskTest extends Edge {
         due("a later one brings more", 12, of("elder 0 1 3;elder 1 2 0;elder 2 3 5;other 1 1 1;"
                 + "sings (house=1)*((base=5)+(base=3)*(year=2));")::match);
         due("of three that bring as much", 10, of(three + "other 1 1 1 1 1 1 1 1 1 1;sings house=1;")::match);
+        due("0 and 2 ahead of 1 and 0", 2, of("elder 0 1 0;elder 1 2 1;elder 2 3 2;other 5;"
+                + "sings 5*((base=0)*(house=1)+(base=2)*(house=0));")::match);
         due("two bring as much", 20, of(three + "other 2 2 2 2 2 2 2 2 2 2;sings house;")::match);
     }
 
